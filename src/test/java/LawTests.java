@@ -234,6 +234,13 @@ public final class LawTests {
         field(c, "f", 49);
         c.live(8);
         field(c, "f", 189);
+        for (int peak = 0; peak < 9; peak++) {
+            int[] one = new int[16];
+            one[peak] = 40;
+            City e = new City(check);
+            e.heights(true, one);
+            field(e, "f", peak < 8 ? 40 : 0);
+        }
         // a short row comes round again within the eight
         City d = new City(check);
         d.heights(true, 5, 70, 6);
@@ -271,6 +278,11 @@ public final class LawTests {
         c.x.level(0, 300);
         field(c, "l", 300);
         for (int cell = 0; cell < 25; cell++) {
+            c.x.level(cell, -30);
+        }
+        for (int cell = 0; cell < 25; cell++) {
+            c.x.level(cell, 9);
+            field(c, "l", 9);
             c.x.level(cell, -30);
         }
         check.isTrue("l is below 0", holds(c, "l<0"));

@@ -1326,6 +1326,7 @@ public final class PromiseTests {
         c.x.close(0, 1, false);
         c.x.level(0, 8);
         c.x.depth(5, 0);
+        c.x.depth(6, 1);
         c.x.rule(2, 4);
         c.x.house(0, 2, 3, 1, 0);
         c.x.house(0, 2, 3, 2, 0);
@@ -1339,6 +1340,7 @@ public final class PromiseTests {
         c.live(1);
         c.due("mud, as 3 is less than 4", 19, () -> c.x.cell(0, 0));
         c.due("DEPTH is 0 at least", 0, () -> c.x.cell(5, 0));
+        c.due("DEPTH 1 becomes 0", 0, () -> c.x.cell(6, 0));
         c.due("RAN is 0 in a new day", 0, () -> c.x.cell(0, 3));
         c.due("SINK 1", 1, () -> c.x.about(0, 3));
         c.due("SINK 2", 0, () -> c.x.about(1, 3));
@@ -1447,6 +1449,9 @@ public final class PromiseTests {
         check.isTrue("all is as it was", kept.equals(c.all()));
         imageLeavesOut();
         restoreAndShelves();
+        newOnesForget();
+        fullCity();
+        forceIsKept();
     }
 
     private static void buildAll(City c) {
@@ -1536,6 +1541,8 @@ public final class PromiseTests {
         c.due("a new HOUSE", 1, () -> c.x.house(2, 3, 4, 5, 6));
         c.due("the shelf stays empty", NONE, () -> c.x.holds(1));
         c.refused("harm of NOTHING", -3, () -> c.x.harm(1, 0));
+        everyShelfLosesAHouse();
+        everyShelfKeepsAHouse();
         // what a house was before the image took it back does not come again
         City d = fresh();
         d.x.image();
@@ -1557,6 +1564,143 @@ public final class PromiseTests {
             int w = what;
             d.due("a new BOAT " + what, boat[what], () -> d.x.sails(0, w));
         }
+    }
+
+    private static void everyShelfLosesAHouse() {
+        City c = fresh();
+        c.x.image();
+        c.x.house(0, 0, 0, 0, 0);
+        for (int s = 0; s < 8; s++) {
+            c.x.show(s, 0);
+        }
+        c.x.restore();
+        for (int s = 0; s < 8; s++) {
+            int shelf = s;
+            c.due("holds(" + s + ")", NONE, () -> c.x.holds(shelf));
+        }
+    }
+
+    private static void everyShelfKeepsAHouse() {
+        City c = fresh();
+        c.x.house(0, 0, 0, 0, 0);
+        c.x.house(0, 0, 0, 0, 0);
+        c.x.image();
+        for (int s = 0; s < 8; s++) {
+            c.x.show(s, s % 2);
+        }
+        c.x.restore();
+        for (int s = 0; s < 8; s++) {
+            int shelf = s;
+            c.due("holds(" + s + ")", s % 2, () -> c.x.holds(shelf));
+        }
+    }
+
+    /** Houses and boats that come where the image took others back know nothing of those. */
+    private static void newOnesForget() {
+        City c = fresh();
+        c.wallInAll();
+        c.x.image();
+        for (int kind = 0; kind < 3; kind++) {
+            c.x.house(kind, 0, 5, 1, 9);
+        }
+        c.x.boat(0, 60, 1, 9, 0);
+        c.x.goal(0, 1);
+        c.x.level(0, 6);
+        c.live(97);
+        c.x.restore();
+        for (int kind = 0; kind < 3; kind++) {
+            int h = c.x.house(0, 1, 7, 0, 0);
+            int[] due = {0, 1, 7, 0, 0, 0, 0, 0};
+            for (int what = 0; what < 8; what++) {
+                int w = what;
+                c.due("about a new HOUSE " + what, due[what], () -> c.x.about(h, w));
+            }
+        }
+        c.x.boat(2, 1, 1, 1, 1);
+        int[] due = {2, NONE, 0, 0, 0, 0};
+        for (int what = 0; what < 6; what++) {
+            int w = what;
+            c.due("a new BOAT " + what, due[what], () -> c.x.sails(0, w));
+        }
+    }
+
+    /** As much as may be of all: 3 mouths, 5 laws, 12 houses, 6 boats, rows of 96. */
+    private static void fullCity() {
+        City c = fresh();
+        int[] heights = new int[96];
+        for (int i = 0; i < 96; i++) {
+            heights[i] = i - 20;
+        }
+        c.heights(false, heights);
+        c.heights(true, heights);
+        for (int m = 0; m < 3; m++) {
+            c.x.mouth(10 * m + 4);
+        }
+        for (int k = 0; k < 5; k++) {
+            c.law("g" + k % 3 + ":s>" + (20 + 9 * k));
+        }
+        for (int h = 0; h < 12; h++) {
+            c.x.house(h % 3, 2 * h, 3 * h, h, 5);
+        }
+        for (int b = 0; b < 6; b++) {
+            c.x.boat(b, 10, 10, 3 + b, b % 2);
+            c.x.goal(b, 24 - b);
+        }
+        c.due("THE SEA in quarter 95", 75, () -> c.x.seaAt(95, false));
+        c.due("THE SEA in quarter 96", -20, () -> c.x.seaAt(96, false));
+        c.x.image();
+        String first = c.all();
+        int[] told = new int[25];
+        for (int cell = 0; cell < 25; cell++) {
+            told[cell] = c.x.foretold(cell, 150);
+        }
+        int least = c.x.best(48, 1);
+        int set = c.x.best(48, 0);
+        c.due("all that was asked changed nothing", 0, () -> c.x.status(7));
+        c.live(150);
+        for (int cell = 0; cell < 25; cell++) {
+            check.same("as it was foretold", c.x.cell(cell, 1), told[cell]);
+        }
+        c.due("the last house counts", 1, () -> c.x.about(11, 0) - 1);
+        c.due("the last boat went", 1, () -> c.x.sails(5, 3));
+        c.x.restore();
+        check.isTrue("all is as it was", first.equals(c.all()));
+        for (int k = 0; k < 5; k++) {
+            c.x.force(k, (set >> k & 1) == 1);
+        }
+        c.live(48);
+        int sum = 0;
+        for (int h = 0; h < 12; h++) {
+            sum += 10 * c.x.about(h, 4);
+        }
+        for (int b = 0; b < 6; b++) {
+            sum += c.x.sails(b, 2);
+        }
+        check.same("what best said comes", sum, least);
+    }
+
+    /** Which laws are in force is kept, and foretold, for each. */
+    private static void forceIsKept() {
+        City c = fresh();
+        c.wallInAll();
+        c.x.mouth(0);
+        c.x.mouth(1);
+        c.law("g0:d=0");
+        c.law("g1:d=0");
+        c.x.force(1, false);
+        c.heights(true, 100);
+        c.due("SHUT as foretold", 0, () -> c.x.foretold(0, 1));
+        c.due("OPEN as foretold", 50, () -> c.x.foretold(1, 1));
+        c.x.image();
+        c.x.force(0, false);
+        c.x.force(1, true);
+        c.due("OPEN as foretold", 50, () -> c.x.foretold(0, 1));
+        c.due("SHUT as foretold", 0, () -> c.x.foretold(1, 1));
+        c.x.restore();
+        c.due("law 0 is IN FORCE", 0, () -> c.x.force(0, true));
+        c.due("law 1 is not", 0, () -> c.x.force(1, false));
+        c.law("g2:d=0");
+        c.due("a new law is IN FORCE", 0, () -> c.x.force(2, true));
     }
 
     // ---- What is
