@@ -317,7 +317,7 @@ public final class WaterCity {
             return refuse(WRONG);
         }
         int bestSet = 0;
-        int bestSum = Integer.MAX_VALUE;
+        int bestSum = 0;
         for (int set = 0; set < 1 << city.lawCount; set++) {
             foreseen.takeCity(city);
             foreseen.enforce(set);
@@ -326,7 +326,7 @@ public final class WaterCity {
                 foreseen.livePeople();
             }
             int sum = foreseen.troubles() - city.troubles();
-            if (sum < bestSum) {
+            if (set == 0 || sum < bestSum) {
                 bestSum = sum;
                 bestSet = set;
             }
@@ -614,12 +614,13 @@ public final class WaterCity {
             return from >= 0 && (long) from + n <= size;
         }
 
+        /** Whether an element is the least number of its sort. */
         boolean isMissing(int i) {
             switch (sort) {
-                case 0: return elements[i] == Byte.MIN_VALUE;
-                case 1: return elements[i] == Short.MIN_VALUE;
-                case 2: return elements[i] == Integer.MIN_VALUE;
-                default: return elements[i] == Long.MIN_VALUE;
+                case 0: return elements[i] == -128L;
+                case 1: return elements[i] == -32_768L;
+                case 2: return elements[i] == -2_147_483_648L;
+                default: return elements[i] == -9_223_372_036_854_775_808L;
             }
         }
     }
@@ -968,7 +969,7 @@ public final class WaterCity {
         private static final int NUMBERS = 1_000;
 
         int mouth;
-        boolean inForce = true;
+        boolean inForce;
         private int length;
         private final int[] code = new int[ELEMENTS];
 

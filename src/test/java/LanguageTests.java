@@ -8,6 +8,8 @@ import java.nio.file.Path;
 import java.util.Arrays;
 import java.util.Set;
 import java.util.TreeSet;
+import java.util.regex.Matcher;
+import java.util.regex.Pattern;
 
 /** What of ../shared/LANGUAGE.md and of the public face can be looked at by a program. */
 public final class LanguageTests {
@@ -110,7 +112,26 @@ public final class LanguageTests {
             check.isTrue("no other library: " + seen,
                 !seen.startsWith("import") || seen.equals("import java.util.Arrays;"));
         }
+        namesOfClasses(bare);
         methodLengths(bare);
+    }
+
+    /** What is named as a class is one of its own, or stands in the rules. */
+    private static void namesOfClasses(String bare) {
+        Set<String> known = new TreeSet<>(Arrays.asList("WaterCity", "Math", "Arrays", "System"));
+        for (Class<?> inside : WaterCity.class.getDeclaredClasses()) {
+            known.add(inside.getSimpleName());
+        }
+        Matcher names = Pattern.compile("\\b[A-Z]\\w*[a-z]\\w*").matcher(bare);
+        while (names.find()) {
+            check.isTrue("a class that may be used: " + names.group(), known.contains(names.group()));
+        }
+        Matcher functions = Pattern.compile("\\b(Math|Arrays|System)\\.\\w+").matcher(bare);
+        Set<String> listed = new TreeSet<>(Arrays.asList("Math.min", "Math.max", "Math.abs", "Arrays.fill",
+            "System.arraycopy"));
+        while (functions.find()) {
+            check.isTrue("a function that may be used: " + functions.group(), listed.contains(functions.group()));
+        }
     }
 
     private static void methodLengths(String bare) {
