@@ -830,7 +830,11 @@ public final class WaterCity {
                 if (steps != 0) {
                     return leastOf(steps);
                 }
-                near = spread(near);
+                int wider = spread(near);
+                if (wider == near) {
+                    return NONE;
+                }
+                near = wider;
             }
             return NONE;
         }
