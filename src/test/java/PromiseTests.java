@@ -913,10 +913,7 @@ public final class PromiseTests {
         c.x.boat(0, 25, 99, 1, 0);
         c.due("route to where it is", 0, () -> c.x.route(0, 0, 96));
         c.due("route on too little water", NONE, () -> c.x.route(0, 4, 96));
-        c.refused("route of no BOAT", -1, () -> c.x.route(1, 4, 0));
-        c.refused("route of no BOAT", -1, () -> c.x.route(-1, 4, 1));
-        c.refused("route to no CELL", -1, () -> c.x.route(0, 25, 97));
-        c.refused("route to no CELL", -1, () -> c.x.route(0, -1, 1));
+        routeOfNobody(c);
         c.refused("route within 0", -6, () -> c.x.route(0, 4, 0));
         c.refused("route within 97", -6, () -> c.x.route(0, 0, 97));
         for (int a = 0; a < 25; a++) {
@@ -937,6 +934,24 @@ public final class PromiseTests {
         routeWaitsForTheTide();
         routeUsesLevelsOfItsQuarter();
         routeOverADay();
+    }
+
+    /** NONE is an answer there: nobody is refused, not even where n is wrong, too. */
+    private static void routeOfNobody(City c) {
+        City bare = fresh();
+        bare.due("route of no BOAT in a new city", NONE, () -> bare.x.route(0, 0, 0));
+        bare.due("route of no BOAT in a new city", NONE, () -> bare.x.route(0, 0, 1));
+        for (int nobody : new int[] {Integer.MIN_VALUE, -2, -1, 1, 5, 6, Integer.MAX_VALUE}) {
+            c.due("route of no BOAT", NONE, () -> c.x.route(nobody, 0, 1));
+            c.due("route of no BOAT within 0", NONE, () -> c.x.route(nobody, 4, 0));
+            c.due("route of no BOAT within 97", NONE, () -> c.x.route(nobody, 4, 97));
+            c.due("route of no BOAT to no CELL", NONE, () -> c.x.route(nobody, 25, 97));
+        }
+        for (int nowhere : new int[] {Integer.MIN_VALUE, -2, -1, 25, 26, Integer.MAX_VALUE}) {
+            c.due("route to no CELL", NONE, () -> c.x.route(0, nowhere, 1));
+            c.due("route to no CELL within 0", NONE, () -> c.x.route(0, nowhere, 0));
+            c.due("route to no CELL within 97", NONE, () -> c.x.route(0, nowhere, 97));
+        }
     }
 
     private static void routeWaitsForTheTide() {
