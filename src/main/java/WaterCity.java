@@ -725,7 +725,7 @@ public final class WaterCity {
         }
 
         static int highEnd(int way) {
-            return lowEnd(way) + (way < WAYS_EAST ? 1 : SIDE);
+            return way < WAYS_EAST ? way + way / (SIDE - 1) + 1 : way - WAYS_EAST + SIDE;
         }
 
         int greatestLevel() {

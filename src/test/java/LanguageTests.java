@@ -1,3 +1,4 @@
+import java.lang.management.ManagementFactory;
 import java.lang.reflect.Constructor;
 import java.lang.reflect.Field;
 import java.lang.reflect.Member;
@@ -28,6 +29,7 @@ public final class LanguageTests {
     public static void main(String[] args) throws Exception {
         face();
         insideClasses();
+        callsMakeNothing();
         if (args.length > 0) {
             source(Files.readString(Path.of(args[0])));
         }
@@ -85,6 +87,52 @@ public final class LanguageTests {
             check.isTrue("not public: " + one, !Modifier.isPublic(one.getModifiers()));
             fields(one);
         }
+    }
+
+    /** All calls of a run live in one room: the dearest calls make no object, however often they come. */
+    private static void callsMakeNothing() {
+        WaterCity x = fullCity();
+        dearestCalls(x, 20);
+        long before = madeBytes();
+        long madeByLooking = madeBytes() - before;
+        before = madeBytes();
+        dearestCalls(x, 40);
+        long made = madeBytes() - before - madeByLooking;
+        // a quarter lived in best alone comes 61,440 times here: one small object each would be far more than this
+        check.isTrue("calls make no object, made were " + made + " bytes", made < 200_000);
+    }
+
+    private static WaterCity fullCity() {
+        WaterCity x = new WaterCity();
+        String text = "g0:f>9&(l<99|!h=5)";
+        x.row(0, 0, text.length());
+        for (int i = 0; i < text.length(); i++) {
+            x.set(0, i, text.charAt(i));
+        }
+        for (int n = 0; n < 12; n++) {
+            x.mouth(n);
+            x.law(0);
+            x.house(n % 3, n, 5, 1, 9);
+            x.boat(n, 5, 9, 9, 1);
+            x.goal(n, 24);
+        }
+        x.image();
+        return x;
+    }
+
+    private static void dearestCalls(WaterCity x, int times) {
+        for (int i = 0; i < times; i++) {
+            x.best(48, 0);
+            x.route(5, 24, 96);
+            x.foretold(0, 200);
+            x.law(0);
+            x.quarters(50);
+            x.restore();
+        }
+    }
+
+    private static long madeBytes() {
+        return ((com.sun.management.ThreadMXBean) ManagementFactory.getThreadMXBean()).getCurrentThreadAllocatedBytes();
     }
 
     private static void fields(Class<?> one) {
