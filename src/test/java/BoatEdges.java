@@ -385,6 +385,18 @@ final class BoatEdges {
             .due(NONE, x -> x.route(0, 0, 96)).forecast(60).due(1, x -> x.route(0, 0, 96));
     }
 
+    static void promise29LawsCountInWhatIsForetold() {
+        new Scene().pair(0, 1).does(x -> x.mouth(0)).forecast(60).law("g0:h=0").does(x -> x.boat(1, 22, 1, 1, 0))
+            .due(5, x -> x.route(0, 0, 96)).does(x -> x.force(0, false)).due(1, x -> x.route(0, 0, 96));
+    }
+
+    static void promise29OtherBoatsThatArriveCountInWhatIsForetold() {
+        // the second boat is there behind two quarters; then the law opens the gate
+        new Scene().pair(0, 1).does(x -> x.mouth(0)).forecast(60).law("g0:w>0").does(x -> x.boat(1, 22, 1, 1, 0))
+            .does(x -> x.boat(22, 1, 1, 1, 0)).does(x -> x.goal(1, 24)).due(3, x -> x.route(0, 0, 96))
+            .does(x -> x.goal(1, NONE)).due(1, x -> x.route(0, 0, 96));
+    }
+
     static void promise29TheLastQuarterOfADay() {
         // with CALM the mud takes a depth at the day's end
         Scene s = new Scene().does(x -> x.rule(2, 9)).does(x -> x.boat(0, 20, 1, 1, 0)).live(92);

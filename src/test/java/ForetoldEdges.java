@@ -179,6 +179,17 @@ final class ForetoldEdges {
             .due(0, x -> x.best(2, 0)).due(0, x -> x.best(2, 1));
     }
 
+    static void promise33WhatSinksInTheseQuartersCounts() {
+        Scene s = new Scene().island(7).does(x -> x.house(0, 7, 3, 1, 0)).does(x -> x.level(7, 3)).live(95);
+        s.due(0, x -> x.best(1, 1)).due(10, x -> x.best(2, 1)).due(470, x -> x.best(48, 1)).due(0, x -> x.about(0, 3));
+    }
+
+    static void promise33MudInTheseQuartersCounts() {
+        Scene s = new Scene().does(x -> x.rule(2, 9)).does(x -> x.boat(0, 20, 1, 1, 0)).does(x -> x.image()).live(95);
+        s.does(x -> x.goal(0, 2)).due(0, x -> x.best(1, 1)).due(1, x -> x.best(2, 1)).due(47, x -> x.best(48, 1))
+            .due(20, x -> x.cell(0, 0));
+    }
+
     static void promise33QuartersBeyondTheLast() {
         Scene.late(0).island(7).does(x -> x.house(0, 7, 0, 0, 0)).does(x -> x.level(7, 1)).due(480, x -> x.best(48, 1));
     }
