@@ -164,6 +164,20 @@ final class ForetoldEdges {
             .due(1, x -> x.best(1, 1));
     }
 
+    static void promise33InAFullCityTheLastHouseAndTheLastBoatCount() {
+        Scene.full().does(x -> x.level(22, 300)).due(10, x -> x.best(1, 1)).island(5).due(11, x -> x.best(1, 1));
+    }
+
+    static void promise33HousesThatTheImageTookBackDoNotCount() {
+        new Scene().island(7).does(x -> x.image()).does(x -> x.house(0, 7, 0, 0, 0)).does(x -> x.level(7, 1)).live(5)
+            .due(10, x -> x.best(1, 1)).does(x -> x.restore()).due(0, x -> x.best(1, 1));
+    }
+
+    static void promise33BoatsThatTheImageTookBackDoNotCount() {
+        new Scene().island(7).does(x -> x.image()).does(x -> x.boat(7, 1, 1, 1, 0)).does(x -> x.goal(0, 8)).live(5)
+            .due(1, x -> x.best(1, 1)).does(x -> x.restore()).due(0, x -> x.best(1, 1));
+    }
+
     static void promise33WaitingIsWeighedAgainstWetHouses() {
         // the boat needs the tide: with it the house is wet and the boat gone, without it the boat waits
         Scene s = new Scene().pair(0, 1).does(x -> x.mouth(0)).both(40).law("g0:f>30").does(x -> x.boat(0, 26, 1, 1, 0))
