@@ -1,93 +1,72 @@
+import java.util.ArrayList;
+import java.util.List;
 import java.util.function.LongSupplier;
+import java.util.function.ToLongFunction;
 
 /** A water city under test, with short ways to build it and to look at all of it. */
 final class City {
     static final int NONE = WaterCity.NONE;
+    private static final int FIRST_COUNT = 11;
+    private static final int REFUSALS = 7;
 
-    final WaterCity x = new WaterCity();
+    final Asked x;
     private final Check check;
+    private final long[] refusals = new long[REFUSALS];
 
     City(Check check) {
-        this.check = check;
+        this(check, new Asked());
+        check.atEnd(this::countsAreAsDue);
     }
 
-    /** The answer is the one that is due, and no refusal is counted. */
+    private City(Check check, Asked x) {
+        this.check = check;
+        this.x = x;
+    }
+
+    /** A city of its own, made by the same calls. */
+    City twin() {
+        return new City(check, x.twin());
+    }
+
+    /** The answer is the one that is due. (That no refusal is counted is seen at the end.) */
     void due(String call, long due, LongSupplier answer) {
-        long[] before = refusals();
-        long got = answer.getAsLong();
-        check.same(call, got, due);
-        long[] after = refusals();
-        for (int k = 0; k < before.length; k++) {
-            check.same(call + ": how many refusals " + -(k + 1), after[k], before[k]);
-        }
+        check.same(call, answer.getAsLong(), due);
     }
 
     /** The call is refused with that number, the refusal is counted, and nothing else changes. */
     void refused(String call, int number, LongSupplier answer) {
-        long[] before = refusals();
-        String all = all();
-        long got = answer.getAsLong();
-        check.same(call, got, number);
+        List<Long> all = all();
+        refusedAlone(call, number, answer);
         check.isTrue(call + " changes nothing", all.equals(all()));
-        long[] after = refusals();
-        for (int k = 0; k < before.length; k++) {
-            long more = k == -number - 1 ? 1 : 0;
-            check.same(call + ": how many refusals " + -(k + 1), after[k], before[k] + more);
+    }
+
+    /** The call is refused with that number; what else changes is not looked at. */
+    void refusedAlone(String call, int number, LongSupplier answer) {
+        check.same(call, answer.getAsLong(), number);
+        refusals[-number - 1]++;
+        check.same(call + ": how many " + number, countOf(-number - 1), refusals[-number - 1]);
+    }
+
+    private long countOf(int k) {
+        return x.status(FIRST_COUNT + k);
+    }
+
+    private void countsAreAsDue() {
+        for (int k = 0; k < REFUSALS; k++) {
+            check.same("at the end: how many refusals " + -(k + 1), countOf(k), refusals[k]);
         }
     }
 
-    long[] refusals() {
-        long[] counts = new long[7];
-        for (int k = 0; k < 7; k++) {
-            counts[k] = x.status(11 + k);
-        }
-        return counts;
-    }
-
-    /** All that can be asked without a refusal, but for refusals and what rules are. */
-    String all() {
-        StringBuilder text = new StringBuilder();
-        for (int c = 0; c < 25; c++) {
-            for (int what = 0; what < 5; what++) {
-                text.append(x.cell(c, what)).append(' ');
-            }
-            for (int what = 0; what < 3; what++) {
-                text.append(x.way(c, c + 1, what)).append(' ').append(x.way(c, c + 5, what)).append(' ');
+    /** All that can be asked but for refusals and the fault, each part of it in a city of its own. */
+    List<Long> all() {
+        List<Long> answers = new ArrayList<>();
+        for (List<ToLongFunction<WaterCity>> look : Looks.butFault()) {
+            Asked twin = x.twin();
+            for (ToLongFunction<WaterCity> asks : look) {
+                answers.add(twin.tell(asks));
             }
         }
-        for (int h = 0; h < 12; h++) {
-            for (int what = 0; what < 8; what++) {
-                text.append(x.about(h, what)).append(' ');
-            }
-        }
-        for (int b = 0; b < 6; b++) {
-            for (int what = 0; what < 6; what++) {
-                text.append(x.sails(b, what)).append(' ');
-            }
-            text.append(x.stepOf(b)).append(' ');
-        }
-        for (int what = 0; what < 11; what++) {
-            text.append(x.status(what)).append(' ');
-        }
-        text.append(x.status(18)).append(' ');
-        for (int k = 0; k < 5; k++) {
-            text.append(x.says(k)).append(' ');
-        }
-        for (int q = 0; q < 96; q++) {
-            text.append(x.seaAt(q, false)).append(' ').append(x.seaAt(q, true)).append(' ');
-        }
-        return text.append(shelves()).toString();
-    }
-
-    String shelves() {
-        StringBuilder text = new StringBuilder();
-        for (int s = 0; s < 8; s++) {
-            text.append(x.holds(s)).append(':');
-            for (int i = 0; i < 97; i++) {
-                text.append(x.element(s, i)).append(' ');
-            }
-        }
-        return text.toString();
+        return answers;
     }
 
     void letters(int s, int sort, String text) {

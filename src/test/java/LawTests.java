@@ -16,11 +16,14 @@ public final class LawTests {
 
     private static void fault(String text, int place) {
         City c = new City(check);
-        int answer = c.law(text);
-        check.same("law \"" + text + "\"", answer, place == WaterCity.NONE ? 0 : -6);
+        c.letters(7, 0, text);
+        if (place == WaterCity.NONE) {
+            c.due("law \"" + text + "\"", 0, () -> c.x.law(7));
+        } else {
+            c.refusedAlone("law \"" + text + "\"", -6, () -> c.x.law(7));
+        }
         check.same("fault of \"" + text + "\"", c.x.fault(), place);
         check.same("how many laws", c.x.status(2), place == WaterCity.NONE ? 1 : 0);
-        check.same("refusals -6", c.x.status(16), place == WaterCity.NONE ? 0 : 1);
     }
 
     private static void good(String text) {
@@ -109,18 +112,18 @@ public final class LawTests {
                 City c = new City(check);
                 c.letters(0, sort, "g0:f>1");
                 c.x.set(0, place, c.x.element(0, place) + 256);
-                check.same("256 above a letter", c.x.law(0), -6);
+                c.refusedAlone("256 above a letter", -6, () -> c.x.law(0));
                 check.same("its fault", c.x.fault(), place);
                 c.x.set(0, place, -1);
-                check.same("-1", c.x.law(0), -6);
+                c.refusedAlone("-1", -6, () -> c.x.law(0));
                 check.same("its fault", c.x.fault(), place);
                 if (sort > 1) {
                     c.letters(0, sort, "g0:f>1");
                     c.x.set(0, place, c.x.element(0, place) + 65_536);
-                    check.same("65,536 above a letter", c.x.law(0), -6);
+                    c.refusedAlone("65,536 above a letter", -6, () -> c.x.law(0));
                     check.same("its fault", c.x.fault(), place);
                     c.x.set(0, place, Integer.MIN_VALUE);
-                    check.same("the least int", c.x.law(0), -6);
+                    c.refusedAlone("the least int", -6, () -> c.x.law(0));
                     check.same("its fault", c.x.fault(), place);
                 }
                 if (sort == 3) {
@@ -131,14 +134,12 @@ public final class LawTests {
             }
         }
         City d = new City(check);
-        d.letters(0, 0, "g0:f>1");
-        d.x.set(0, 6, 0);
         d.x.row(0, 0, 7);
         String text = "g0:f>1";
         for (int i = 0; i < 6; i++) {
             d.x.set(0, i, text.charAt(i));
         }
-        check.same("a 0 behind a law", d.x.law(0), -6);
+        d.refusedAlone("a 0 behind a law", -6, () -> d.x.law(0));
         check.same("its fault", d.x.fault(), 6);
     }
 
@@ -187,13 +188,10 @@ public final class LawTests {
     }
 
     private static boolean holds(City c, String expression) {
-        City copy = c;
-        copy.x.image();
-        check.same("law " + expression, copy.law("g0:" + expression) >= 0 ? 1 : 0, 1);
-        int number = copy.x.status(2) - 1;
-        boolean says = copy.x.says(number) == 1;
-        copy.x.restore();
-        return says;
+        City twin = c.twin();
+        int number = twin.law("g0:" + expression);
+        check.same("law " + expression, number, 0);
+        return twin.x.says(number) == 1;
     }
 
     private static void field(City c, String name, int due) {

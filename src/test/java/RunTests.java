@@ -1,13 +1,13 @@
-/** Runs of chosen calls, the same each time: WaterCity has to answer as CityModel does. */
+/** Runs of chosen calls, the same each time: WaterCity has to answer as CityModel does, up to the 512th call. */
 public final class RunTests {
-    private static final int RUNS = 400;
-    private static final int CALLS = 512;
+    private static final int RUNS = 1_000;
+    private static final int DEAREST_STEP = 100;
     private static final int NONE = WaterCity.NONE;
 
     private final Check check;
+    private final Asked x = new Asked();
+    private final CityModel m = new CityModel();
     private long seed;
-    private WaterCity x;
-    private CityModel m;
 
     private RunTests(Check check, int run) {
         this.check = check;
@@ -23,19 +23,29 @@ public final class RunTests {
     }
 
     private void go(int run) {
-        x = new WaterCity();
-        m = new CityModel();
-        for (int call = 0; call < CALLS && !check.hasWrong(); call++) {
-            String told = "run " + run + " call " + call + ": ";
-            if (call < 40 && run % 4 != 3) {
+        if (run % 20 == 19) {
+            comeLate("run " + run + " comes late: ");
+        }
+        for (int step = 0; x.left() >= DEAREST_STEP && !check.hasWrong(); step++) {
+            String told = "run " + run + " step " + step + ": ";
+            if (step < 30 && run % 4 != 3) {
                 build(told);
             } else {
                 any(told);
             }
         }
-        if (!check.hasWrong()) {
-            compareAll("run " + run + " at its end: ");
+        while (x.left() > 0 && !check.hasWrong()) {
+            look("run " + run + " at its end: ");
         }
+    }
+
+    /** A run that begins where the last quarters are not far. */
+    private void comeLate(String told) {
+        for (int n = 0; n < 99; n++) {
+            same(told + "quarters 200", x.quarters(200), m.quarters(200));
+        }
+        int more = upTo(200) + 1;
+        same(told + "quarters " + more, x.quarters(more), m.quarters(more));
     }
 
     private int upTo(int n) {
@@ -110,7 +120,7 @@ public final class RunTests {
             case 14: foretold(told); break;
             case 15: images(told); break;
             case 16: rules(told); break;
-            default: looks(told); break;
+            default: look(told); break;
         }
     }
 
@@ -337,7 +347,9 @@ public final class RunTests {
             same(told + "image", x.image(), m.image());
         } else if (upTo(5) == 0) {
             same(told + "restore", x.restore(), m.restore());
-            compareAll(told + "behind restore: ");
+            for (int i = 0; i < 9; i++) {
+                look(told + "behind restore: ");
+            }
         }
     }
 
@@ -347,15 +359,19 @@ public final class RunTests {
         same(told + "rule " + what + " " + n, x.rule(what, n), m.rule(what, n));
     }
 
-    private void looks(String told) {
+    /** What can be asked without changing anything. */
+    private void look(String told) {
         int a = cell();
         int b = besides(a);
-        int h = number(0, 11);
         int what = number(0, 7);
-        switch (upTo(4)) {
+        int boat = number(0, 5);
+        switch (upTo(7)) {
             case 0: same(told + "cell " + a + " " + what, x.cell(a, what), m.cell(a, what)); break;
             case 1: same(told + "way " + a + " " + b + " " + what, x.way(a, b, what), m.way(a, b, what)); break;
-            case 2: same(told + "about " + h + " " + what, x.about(h, what), m.about(h, what)); break;
+            case 2: same(told + "sails " + boat + " " + what, x.sails(boat, what), m.sails(boat, what)); break;
+            case 3: same(told + "stepOf " + boat, x.stepOf(boat), m.stepOf(boat)); break;
+            case 4: lookAtHouses(told); break;
+            case 5: lookAtShelves(told); break;
             default:
                 int which = number(0, 18);
                 same(told + "status " + which, x.status(which), m.status(which));
@@ -363,36 +379,27 @@ public final class RunTests {
         }
     }
 
-    private void compareAll(String told) {
-        for (int c = -1; c <= 25; c++) {
-            for (int what = -1; what <= 5; what++) {
-                same(told + "cell " + c + " " + what, x.cell(c, what), m.cell(c, what));
-            }
-            for (int d = -1; d <= 25; d++) {
-                for (int what = 0; what < 3; what++) {
-                    same(told + "way " + c + " " + d + " " + what, x.way(c, d, what), m.way(c, d, what));
-                }
-            }
-        }
-        for (int k = -1; k <= 12; k++) {
-            for (int what = -1; what <= 8; what++) {
-                same(told + "about " + k + " " + what, x.about(k, what), m.about(k, what));
-                same(told + "sails " + k + " " + what, x.sails(k, what), m.sails(k, what));
-            }
-            same(told + "stepOf " + k, x.stepOf(k), m.stepOf(k));
+    private void lookAtHouses(String told) {
+        int h = upTo(3) == 0 ? number(0, 11) : upTo(Math.max(1, m.s.houses.size()));
+        int what = number(0, 7);
+        int k = number(0, 4);
+        if (upTo(4) > 0) {
+            same(told + "about " + h + " " + what, x.about(h, what), m.about(h, what));
+        } else {
             same(told + "says " + k, x.says(k), m.says(k));
-            same(told + "holds " + k, x.holds(k), m.holds(k));
-            for (int i = 0; i < 96; i++) {
-                same(told + "element " + k + " " + i, x.element(k, i), m.element(k, i));
-            }
         }
-        for (int what = -1; what <= 19; what++) {
-            same(told + "status " + what, x.status(what), m.status(what));
+    }
+
+    private void lookAtShelves(String told) {
+        int s = number(0, 7);
+        int i = upTo(4) == 0 ? number(0, 95) : number(0, 12);
+        int q = upTo(4) == 0 ? number(0, 20_000) : number(0, 20);
+        boolean forecast = coin();
+        switch (upTo(4)) {
+            case 0: same(told + "holds " + s, x.holds(s), m.holds(s)); break;
+            case 1: same(told + "element " + s + " " + i, x.element(s, i), m.element(s, i)); break;
+            case 2: same(told + "seaAt " + q + " " + forecast, x.seaAt(q, forecast), m.seaAt(q, forecast)); break;
+            default: same(told + "fault", x.fault(), m.fault()); break;
         }
-        for (int q = 0; q < 97; q++) {
-            same(told + "seaAt " + q, x.seaAt(q, false), m.seaAt(q, false));
-            same(told + "forecast at " + q, x.seaAt(q, true), m.seaAt(q, true));
-        }
-        same(told + "fault", x.fault(), m.fault());
     }
 }
