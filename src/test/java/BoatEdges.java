@@ -380,6 +380,26 @@ final class BoatEdges {
             .does(x -> x.goal(0, 1)).due(1, x -> x.stepOf(0)).due(NONE, x -> x.route(0, 1, 96));
     }
 
+    static void promise29ItWaitsForTheEbbUnderABridge() {
+        // the greater level of both is 35, 30, 25, 21, 18 behind the flows of the first five quarters
+        Scene s = new Scene().pair(0, 1).does(x -> x.mouth(0)).does(x -> x.level(0, 40)).does(x -> x.level(1, 40))
+            .does(x -> x.boat(0, 1, 5, 1, 0));
+        s.does(x -> x.bridge(0, 1, 30)).due(3, x -> x.route(0, 1, 96)).does(x -> x.bridge(0, 1, 26))
+            .due(4, x -> x.route(0, 1, 96)).due(4, x -> x.route(0, 1, 4)).due(NONE, x -> x.route(0, 1, 3))
+            .does(x -> x.bridge(0, 1, 25)).due(5, x -> x.route(0, 1, 96));
+    }
+
+    static void promise29ItGoesAheadInTimeAndWaitsOnItsWay() {
+        // 0 has 25 behind the first quarter and 18 behind the next: only at once can it leave 0;
+        // 2 has 40, 39, 37, 35, 33, 31, 29 behind the first seven: only then it is low enough for the bridge
+        Scene s = new Scene().does(x -> x.close(0, 5, true)).does(x -> x.close(1, 6, true))
+            .does(x -> x.close(2, 7, true)).does(x -> x.close(2, 3, true)).does(x -> x.mouth(0));
+        s.does(x -> x.level(0, 40)).does(x -> x.level(1, 40)).does(x -> x.level(2, 40)).does(x -> x.depth(1, 60))
+            .does(x -> x.depth(2, 60)).does(x -> x.bridge(1, 2, 35)).does(x -> x.boat(0, 45, 5, 1, 0));
+        s.due(1, x -> x.route(0, 1, 96)).due(7, x -> x.route(0, 2, 96)).due(NONE, x -> x.route(0, 2, 6));
+        s.does(x -> x.boat(0, 46, 5, 1, 0)).due(NONE, x -> x.route(1, 1, 96)).due(NONE, x -> x.route(1, 2, 96));
+    }
+
     static void promise29TheForecastCountsAndNotTheSea() {
         new Scene().pair(0, 1).does(x -> x.mouth(0)).sea(60).does(x -> x.boat(1, 22, 1, 1, 0))
             .due(NONE, x -> x.route(0, 0, 96)).forecast(60).due(1, x -> x.route(0, 0, 96));

@@ -62,6 +62,12 @@ final class ForetoldEdges {
             .due(50, x -> x.foretold(7, 5)).does(x -> x.force(0, false)).due(50, x -> x.foretold(7, 1));
     }
 
+    static void promise32MissCountsInLawsAsForetold() {
+        new Scene().island(7).does(x -> x.mouth(7)).forecast(40).law("g0:f>50").due(20, x -> x.foretold(7, 1))
+            .does(x -> x.rule(0, 10)).due(20, x -> x.foretold(7, 1)).does(x -> x.rule(0, 11))
+            .due(0, x -> x.foretold(7, 1));
+    }
+
     static void promise32BoatsThatArriveCountInWhatIsForetold() {
         new Scene().pair(0, 1).island(24).does(x -> x.mouth(24)).forecast(100).law("g0:w>0")
             .does(x -> x.boat(0, 1, 1, 1, 0)).does(x -> x.goal(0, 1)).due(0, x -> x.foretold(24, 1))
